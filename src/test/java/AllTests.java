@@ -1,0 +1,9 @@
+/** Runs every test of the project; ends with exit code 1 if one fails. */
+public final class AllTests {
+    private AllTests() {
+    }
+
+    public static void main(String[] args) {
+        System.exit(Check.report() ? 0 : 1);
+    }
+}
