@@ -752,8 +752,6 @@ public final class ProductConfigurator {
         private void start(int newSign) {
             sign = newSign;
             isFound = false;
-            best = 0;
-            configuration = 0;
         }
 
         private void meet(int met, int price) {

@@ -4,6 +4,15 @@ public final class AllTests {
     }
 
     public static void main(String[] args) {
+        FaceTest.runAll();
+        LanguageTest.runAll();
+        ProductTest.runAll();
+        ChoicesTest.runAll();
+        WhatThereIsTest.runAll();
+        WhatIsLeftTest.runAll();
+        WhyTest.runAll();
+        PricesTest.runAll();
+        RandomRunsTest.runAll();
         System.exit(Check.report() ? 0 : 1);
     }
 }
