@@ -12,6 +12,12 @@ public final class AllTests {
         WhatIsLeftTest.runAll();
         WhyTest.runAll();
         PricesTest.runAll();
+        TermsTest.runAll();
+        ProductEdgesTest.runAll();
+        ChoicesEdgesTest.runAll();
+        ReadingEdgesTest.runAll();
+        WhyAndPricesEdgesTest.runAll();
+        EdgeSweepTest.runAll();
         RandomRunsTest.runAll();
         System.exit(Check.report() ? 0 : 1);
     }

@@ -13,6 +13,19 @@ final class Check {
         void run();
     }
 
+    /** Makes an object and brings it to a state, each time the same one. */
+    interface Maker {
+        ProductConfigurator make();
+    }
+
+    interface Use {
+        void of(ProductConfigurator x);
+    }
+
+    interface UseOfValue {
+        void of(ProductConfigurator x, int value);
+    }
+
     static void test(String name, Body body) {
         try {
             body.run();
@@ -45,10 +58,21 @@ final class Check {
         equal(due, got);
     }
 
-    /** The call is to throw, and to leave all that can be read as it was. */
-    static void refused(Class<? extends RuntimeException> due, ProductConfigurator x, Body call) {
-        String before = Readings.of(x);
-        refused(due, call);
-        equal(before, Readings.of(x));
+    /**
+     * The call is to throw when a new object is in that state, and to leave every answer as on
+     * another object that never got the call.
+     */
+    static void refused(Class<? extends RuntimeException> due, Maker state, Use call) {
+        ProductConfigurator x = state.make();
+        refused(due, () -> call.of(x));
+        equal(Readings.whole(state.make()), Readings.whole(x));
+    }
+
+    /** Each of these values is refused so. */
+    static void refused(Class<? extends RuntimeException> due, Maker state, int[] wrong,
+            UseOfValue call) {
+        for (int value : wrong) {
+            refused(due, state, x -> call.of(x, value));
+        }
     }
 }

@@ -1,23 +1,15 @@
 /** Promises 9 to 14: choices. */
 final class ChoicesTest {
-    private static final Class<IndexOutOfBoundsException> INDEX = IndexOutOfBoundsException.class;
-    private static final Class<IllegalStateException> STATE = IllegalStateException.class;
-    private static final int MIN = Integer.MIN_VALUE;
-    private static final int MAX = Integer.MAX_VALUE;
-
     private ChoicesTest() {
     }
 
     static void runAll() {
         Check.test("promise 9: choose", ChoicesTest::choose);
-        Check.test("promise 9: choose refuses", ChoicesTest::chooseRefuses);
         Check.test("promise 10: withdraw", ChoicesTest::withdraw);
-        Check.test("promise 10: withdraw refuses", ChoicesTest::withdrawRefuses);
         Check.test("promise 11: force takes the latest of an explanation back",
                 ChoicesTest::forceTakesBackTheLatest);
         Check.test("promise 11: force takes another choice back", ChoicesTest::forceOtherChoice);
         Check.test("promise 11: force what is chosen", ChoicesTest::forceWhatIsChosen);
-        Check.test("promise 11: force refuses", ChoicesTest::forceRefuses);
         Check.test("promise 12: takeDefaults", ChoicesTest::takeDefaults);
         Check.test("promise 12: takeDefaults by then", ChoicesTest::takeDefaultsByThen);
         Check.test("promise 13: finish", ChoicesTest::finish);
@@ -43,26 +35,6 @@ final class ChoicesTest {
         Check.equal(1, x.count());
     }
 
-    private static void chooseRefuses() {
-        ProductConfigurator x = Products.of(2, 3);
-        x.addRule(0, 0, 1, 1, 2);
-        for (int wrong : new int[] {MIN, -1, 2, MAX}) {
-            Check.refused(INDEX, x, () -> x.choose(wrong, 0));
-            Check.refused(INDEX, x, () -> x.choose(0, wrong));
-        }
-        x.choose(0, 1);
-        Check.refused(STATE, x, () -> x.choose(0, 1));
-        Check.refused(STATE, x, () -> x.choose(0, 0));
-        Check.refused(STATE, x, () -> x.choose(1, 2));
-        Check.refused(INDEX, x, () -> x.choose(0, 2));
-        Check.equal(2, x.choose(1, 1));
-
-        // Narrowing leaves the option, but it leads to no configuration.
-        ProductConfigurator y = Products.knot();
-        Check.equal(3, y.remaining(0));
-        Check.refused(STATE, y, () -> y.choose(0, 0));
-    }
-
     private static void withdraw() {
         ProductConfigurator x = Products.of(3, 3, 3);
         x.choose(2, 2);
@@ -76,17 +48,6 @@ final class ChoicesTest {
         Check.equal("2.2 1.0 0.2 ", order(x));
         Check.equal(2, x.withdraw(2));
         Check.equal("1.0 0.2 ", order(x));
-    }
-
-    private static void withdrawRefuses() {
-        ProductConfigurator x = Products.of(2, 2);
-        x.choose(1, 0);
-        for (int wrong : new int[] {MIN, -1, 2, 6, 31, 33, MAX}) {
-            Check.refused(INDEX, x, () -> x.withdraw(wrong));
-        }
-        Check.refused(STATE, x, () -> x.withdraw(0));
-        x.withdraw(1);
-        Check.refused(STATE, x, () -> x.withdraw(1));
     }
 
     private static void forceTakesBackTheLatest() {
@@ -145,20 +106,6 @@ final class ChoicesTest {
         x.choose(1, 1);
         Check.equal(0, x.force(0, 1));
         Check.equal("0.1 1.1 ", order(x));
-    }
-
-    private static void forceRefuses() {
-        ProductConfigurator x = Products.knot();
-        x.choose(1, 0);
-        for (int wrong : new int[] {MIN, -1, 3, MAX}) {
-            Check.refused(INDEX, x, () -> x.force(wrong, 0));
-            Check.refused(INDEX, x, () -> x.force(0, wrong));
-        }
-        Check.refused(INDEX, x, () -> x.force(0, 2));
-        Check.refused(STATE, x, () -> x.force(0, 0));
-        Check.refused(STATE, x, () -> x.force(1, 1));
-        Check.equal(0, x.force(0, 1));
-        Check.equal("1.0 0.1 ", order(x));
     }
 
     private static void takeDefaults() {

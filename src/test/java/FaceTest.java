@@ -88,12 +88,13 @@ final class FaceTest {
             Check.equal(isPrivate, !open.contains(method.getName()));
         }
         for (Field field : face.getDeclaredFields()) {
-            Check.equal(true, Modifier.isPrivate(field.getModifiers()));
-            Check.equal(true, Modifier.isFinal(field.getModifiers()));
+            int modifiers = field.getModifiers();
+            Check.equal(true, Modifier.isPrivate(modifiers));
+            Check.equal(true, Modifier.isFinal(modifiers) || !Modifier.isStatic(modifiers));
         }
         for (Class<?> inside : face.getDeclaredClasses()) {
-            Check.equal(true, Modifier.isPrivate(inside.getModifiers()));
-            Check.equal(true, Modifier.isStatic(inside.getModifiers()));
+            int modifiers = inside.getModifiers();
+            Check.equal(false, Modifier.isPublic(modifiers) || Modifier.isProtected(modifiers));
         }
     }
 

@@ -1,7 +1,10 @@
 import java.io.IOException;
 import java.io.UncheckedIOException;
+import java.lang.reflect.Executable;
 import java.nio.file.Files;
 import java.nio.file.Path;
+import java.util.regex.Matcher;
+import java.util.regex.Pattern;
 
 /**
  * What can be seen of LANGUAGE.md by looking at the text of the program; the machine's compiler
@@ -9,12 +12,34 @@ import java.nio.file.Path;
  */
 final class LanguageTest {
     private static final Path PROGRAM = Path.of("src/main/java/ProductConfigurator.java");
-    private static final String[] RULED_OUT = {
-        "import ", "package ", "->", "::", "finally", "synchronized", "assert ", "extends Exception",
-        "hashCode", "toString", "protected ", "while (true)", "for (;;)", "Exact(", "System.",
-        "Thread", "Random", "+ \"", "\" +", "catch ("
+    private static final Pattern COMMENTS_AND_TEXTS = Pattern.compile(
+            "\"(?:\\\\.|[^\"\\\\])*\"|'(?:\\\\.|[^'\\\\])*'|//[^\n]*|/\\*.*?\\*/", Pattern.DOTALL);
+    private static final String LISTED_EXCEPTIONS = "(?:IllegalStateException"
+            + "|IllegalArgumentException|IndexOutOfBoundsException|ArithmeticException"
+            + "|UnsupportedOperationException|NoSuchElementException|RuntimeException)";
+
+    /** A rule by its number, and a pattern that no line of the program may hold. */
+    private static final String[][] RULED_OUT = {
+        {"the head: no package", "^\\s*package\\b"},
+        {"2: no lambda", "^(?!\\s*(?:case|default)\\b).*->"},
+        {"2: no method reference", "::"},
+        {"4: the library", "\\bimport\\s+(?!java\\.util\\.)"},
+        {"4: arraycopy alone of System", "\\bSystem\\.(?!arraycopy\\b)"},
+        {"4: nothing named Exact", "Exact\\s*\\("},
+        {"5: no static initialiser", "^\\s*static\\s*\\{"},
+        {"6: only the listed exceptions", "\\bthrow\\s+(?!new\\s+" + LISTED_EXCEPTIONS + "\\b)"},
+        {"6: only the listed exceptions",
+            "\\bcatch\\s*\\((?!(?:\\s*\\|?\\s*" + LISTED_EXCEPTIONS + "\\b)+\\s+\\w+\\s*\\))"},
+        {"6: no exception class", "\\bextends\\s+\\w*(?:Exception|Error|Throwable)\\b"},
+        {"6: no try with resources", "\\btry\\s*\\("},
+        {"6: not these", "\\b(?:finally|synchronized|assert)\\b"},
+        {"6: no hashCode", "\\bhashCode\\b"},
+        {"9: each loop has an end", "\\bwhile\\s*\\(\\s*true\\b|\\bfor\\s*\\([^;]*;\\s*;"},
+        {"10: texts are joined by StringBuilder", "\\+\\s*\"|\"\\s*\\+"},
+        {"13: no clock, no randomness, no thread", "\\b(?:Random|random|Thread|nanoTime|Clock)\\b"},
     };
     private static final int MOST_CLASSES = 12;
+    private static final int MOST_PARAMETERS = 7;
     private static final int LONGEST_METHOD = 60;
 
     private LanguageTest() {
@@ -22,8 +47,9 @@ final class LanguageTest {
 
     static void runAll() {
         Check.test("language: nothing that is ruled out", LanguageTest::nothingRuledOut);
-        Check.test("language: signs are 1 to 127", LanguageTest::signs);
-        Check.test("language: short methods, few classes", LanguageTest::sizes);
+        Check.test("language, rule 3: signs are 1 to 127", LanguageTest::signs);
+        Check.test("language, rule 11: short methods, few classes", LanguageTest::sizes);
+        Check.test("language, rule 11: at most seven parameters", LanguageTest::parameters);
     }
 
     private static String program() {
@@ -34,11 +60,17 @@ final class LanguageTest {
         }
     }
 
+    private static String withoutCommentsAndTexts() {
+        return COMMENTS_AND_TEXTS.matcher(program()).replaceAll(found ->
+                found.group().startsWith("/") ? " " : "\"\"");
+    }
+
     private static void nothingRuledOut() {
-        String text = program().replaceAll("(?s)/\\*.*?\\*/", "").replaceAll("//.*", "");
-        for (String word : RULED_OUT) {
-            if (text.contains(word)) {
-                throw new AssertionError("ruled out: " + word);
+        String text = withoutCommentsAndTexts();
+        for (String[] rule : RULED_OUT) {
+            Matcher found = Pattern.compile(rule[1], Pattern.MULTILINE).matcher(text);
+            if (found.find()) {
+                throw new AssertionError("rule " + rule[0] + ": " + found.group());
             }
         }
     }
@@ -67,5 +99,21 @@ final class LanguageTest {
             }
         }
         Check.equal(true, classes <= MOST_CLASSES);
+    }
+
+    private static void parameters() {
+        checkParameters(ProductConfigurator.class);
+        for (Class<?> inside : ProductConfigurator.class.getDeclaredClasses()) {
+            checkParameters(inside);
+        }
+    }
+
+    private static void checkParameters(Class<?> owner) {
+        for (Executable method : owner.getDeclaredMethods()) {
+            Check.equal(true, method.getParameterCount() <= MOST_PARAMETERS);
+        }
+        for (Executable constructor : owner.getDeclaredConstructors()) {
+            Check.equal(true, constructor.getParameterCount() <= MOST_PARAMETERS);
+        }
     }
 }

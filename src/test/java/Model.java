@@ -164,9 +164,17 @@ final class Model {
         return before;
     }
 
+    int features() {
+        return sizes.size();
+    }
+
     int options(int feature) {
         needFeature(feature);
         return sizes.get(feature);
+    }
+
+    int rules() {
+        return rules.size();
     }
 
     boolean isOn(int rule) {
@@ -174,6 +182,10 @@ final class Model {
             throw new IndexOutOfBoundsException();
         }
         return on.get(rule);
+    }
+
+    int choices() {
+        return choices.size();
     }
 
     int choiceAt(int k) {
@@ -231,6 +243,10 @@ final class Model {
     }
 
     int count() {
+        return possible().size();
+    }
+
+    int countByTrying() {
         return possible().size();
     }
 
@@ -429,9 +445,7 @@ final class Model {
     private void addConfigurations(List<int[]> list, int[] configuration, int feature,
             List<int[]> kept, List<int[]> taken) {
         if (feature == sizes.size()) {
-            boolean isGood = kept.stream().allMatch(rule -> isKept(rule, configuration))
-                    && taken.stream().allMatch(choice -> configuration[choice[0]] == choice[1]);
-            if (isGood) {
+            if (hasAll(taken, configuration) && keepsAll(kept, configuration)) {
                 list.add(configuration.clone());
             }
             return;
@@ -440,6 +454,24 @@ final class Model {
             configuration[feature] = option;
             addConfigurations(list, configuration, feature + 1, kept, taken);
         }
+    }
+
+    private static boolean hasAll(List<int[]> taken, int[] configuration) {
+        for (int[] choice : taken) {
+            if (configuration[choice[0]] != choice[1]) {
+                return false;
+            }
+        }
+        return true;
+    }
+
+    private static boolean keepsAll(List<int[]> kept, int[] configuration) {
+        for (int[] rule : kept) {
+            if (!isKept(rule, configuration)) {
+                return false;
+            }
+        }
+        return true;
     }
 
     private static boolean isKept(int[] rule, int[] configuration) {

@@ -33,9 +33,9 @@ final class PricesTest {
 
     private static void price() {
         ProductConfigurator x = shop();
-        Check.refused(STATE, x, () -> x.price());
+        Check.refused(STATE, () -> x.price());
         x.choose(1, 2);
-        Check.refused(STATE, x, () -> x.price());
+        Check.refused(STATE, () -> x.price());
         x.choose(0, 2);
         Check.equal(-20, x.price());
         x.force(0, 1);
@@ -46,7 +46,7 @@ final class PricesTest {
         x.addSurcharge(0, 1, 1, 2, 7);
         Check.equal(1064, x.price());
         x.addFeature(2);
-        Check.refused(STATE, x, () -> x.price());
+        Check.refused(STATE, () -> x.price());
         Check.equal(0, new ProductConfigurator().price());
     }
 
@@ -95,7 +95,7 @@ final class PricesTest {
         Check.equal(1, x.cheapest(0));
         Check.equal(1, x.cheapest(1));
         for (int wrong : new int[] {MIN, -1, 2, 6, MAX}) {
-            Check.refused(INDEX, x, () -> x.cheapest(wrong));
+            Check.refused(INDEX, () -> x.cheapest(wrong));
         }
     }
 
@@ -122,13 +122,13 @@ final class PricesTest {
         x.addRule(0, 0, 1, 1, 1);
         Check.equal(25, x.leastWith(0, 1));
         x.choose(1, 1);
-        Check.refused(STATE, x, () -> x.leastWith(0, 1));
-        Check.refused(STATE, x, () -> x.leastWith(1, 0));
+        Check.refused(STATE, () -> x.leastWith(0, 1));
+        Check.refused(STATE, () -> x.leastWith(1, 0));
         Check.equal(30, x.leastWith(0, 2));
         Check.equal(30, x.leastWith(1, 1));
         for (int wrong : new int[] {MIN, -1, 3, MAX}) {
-            Check.refused(INDEX, x, () -> x.leastWith(wrong, 0));
-            Check.refused(INDEX, x, () -> x.leastWith(0, wrong));
+            Check.refused(INDEX, () -> x.leastWith(wrong, 0));
+            Check.refused(INDEX, () -> x.leastWith(0, wrong));
         }
     }
 }

@@ -1,47 +1,78 @@
 import java.util.function.Supplier;
 
-/** Long runs of calls, each answer held against the one of the plain model. */
+/** Runs of calls, each answer held against the one of the plain model. */
 final class RandomRunsTest {
-    private static final int RUNS = 120;
+    private static final int LONG_RUNS = 120;
     private static final int CALLS = 512;
 
+    /** After fewer calls there are enough left of 512 to read the object whole. */
+    private static final int SHORT_RUNS = 80;
+    private static final int FEWER_CALLS = 200;
+    private static final int CALLS_FROM_STATE = 120;
+    private static final int RUNS_FROM_STATE = 6;
+
+    /** Seldom, since the model tries each of 15625 configurations. */
+    private static final int GREAT_RUNS = 4;
+
     private final int run;
-    private final ProductConfigurator x = new ProductConfigurator();
-    private final Model model = new Model();
+    private final ProductConfigurator x;
+    private final Model model;
     private long state;
-    /** How many features a run gets, and how many of its arguments are in range. */
     private final int mostFeatures;
     private final int mostOptions;
+    /** One of so many arguments may be out of range. */
     private final int wrongOutOf;
 
+    /** Run by run, few features with many options or many with few. */
     private RandomRunsTest(int run) {
         this.run = run;
+        this.x = new ProductConfigurator();
+        this.model = new Model();
         this.state = run * 7919L + 17;
         this.mostFeatures = 2 + run % 5;
         this.mostOptions = mostFeatures > 4 ? 3 : 3 + run / 5 % 3;
         this.wrongOutOf = run % 2 == 0 ? 12 : 60;
     }
 
-    static void runAll() {
-        for (int run = 0; run < RUNS; run++) {
-            RandomRunsTest test = new RandomRunsTest(run);
-            Check.test("random run " + run, test::go);
-        }
-        // All of 6 features with 5 options: seldom, since the model tries every configuration.
-        RandomRunsTest great = new RandomRunsTest(-1, 6, 5);
-        Check.test("random run of the greatest product", great::goGreat);
-    }
-
-    private RandomRunsTest(int run, int features, int options) {
+    private RandomRunsTest(int run, States from) {
         this.run = run;
-        this.state = 4711;
-        this.mostFeatures = features;
-        this.mostOptions = options;
+        this.x = from.make();
+        this.model = from.model();
+        this.state = run * 104729L + from.ordinal();
+        this.mostFeatures = 6;
+        this.mostOptions = 3;
         this.wrongOutOf = 30;
     }
 
-    private void go() {
-        for (int call = 0; call < CALLS; call++) {
+    static void runAll() {
+        for (int run = 0; run < LONG_RUNS; run++) {
+            RandomRunsTest test = new RandomRunsTest(run);
+            Check.test("random run " + run, () -> test.go(CALLS));
+        }
+        for (int run = LONG_RUNS; run < LONG_RUNS + SHORT_RUNS; run++) {
+            RandomRunsTest test = new RandomRunsTest(run);
+            Check.test("random run, read whole at its end, " + run, () -> {
+                test.go(FEWER_CALLS);
+                test.readWhole();
+            });
+        }
+        for (States from : States.values()) {
+            for (int run = 0; run < RUNS_FROM_STATE; run++) {
+                RandomRunsTest test = new RandomRunsTest(run, from);
+                Check.test("random run from the state " + from + ", " + run, () -> {
+                    test.go(CALLS_FROM_STATE);
+                    test.readWhole();
+                });
+            }
+        }
+        for (int run = 0; run < GREAT_RUNS; run++) {
+            RandomRunsTest test = new RandomRunsTest(run, States.NOTHING);
+            Check.test("random run of the greatest product " + run, test::goGreat);
+        }
+    }
+
+    private void go(int calls) {
+        for (int call = 0; call < calls; call++) {
             step(call, next(100));
         }
     }
@@ -53,6 +84,10 @@ final class RandomRunsTest {
         for (int call = 6; call < 160; call++) {
             step(call, next(100));
         }
+    }
+
+    private void readWhole() {
+        Check.equal(Readings.whole(model), Readings.whole(x));
     }
 
     /** A linear generator of its own: the runs are the same ones every time. */

@@ -1,9 +1,6 @@
 /** Promises 27 and 28: explanations. */
 final class WhyTest {
-    private static final Class<IndexOutOfBoundsException> INDEX = IndexOutOfBoundsException.class;
     private static final Class<IllegalStateException> STATE = IllegalStateException.class;
-    private static final int MIN = Integer.MIN_VALUE;
-    private static final int MAX = Integer.MAX_VALUE;
 
     private WhyTest() {
     }
@@ -14,7 +11,6 @@ final class WhyTest {
         Check.test("promises 27, 28: choices from the latest", WhyTest::choicesFromTheLatest);
         Check.test("promises 27, 28: only rules that are on", WhyTest::onlyRulesThatAreOn);
         Check.test("promises 27, 28: the own choice is not regarded", WhyTest::ownChoice);
-        Check.test("promises 27, 28: refusals", WhyTest::refusals);
     }
 
     private static void due(ProductConfigurator x, int feature, int option, int rules, int choices) {
@@ -125,19 +121,5 @@ final class WhyTest {
         Check.refused(STATE, () -> x.whyByRules(0, 0));
         due(x, 0, 1, 1, 2);
         Check.refused(STATE, () -> x.whyByRules(1, 1));
-    }
-
-    private static void refusals() {
-        ProductConfigurator x = Products.knot();
-        x.choose(0, 1);
-        for (int wrong : new int[] {MIN, -1, 3, 6, MAX}) {
-            Check.refused(INDEX, x, () -> x.whyByRules(wrong, 0));
-            Check.refused(INDEX, x, () -> x.whyByChoices(wrong, 0));
-            Check.refused(INDEX, x, () -> x.whyByRules(0, wrong));
-            Check.refused(INDEX, x, () -> x.whyByChoices(0, wrong));
-        }
-        Check.refused(INDEX, x, () -> x.whyByRules(0, 2));
-        Check.refused(STATE, x, () -> x.whyByRules(0, 1));
-        Check.refused(STATE, x, () -> x.whyByChoices(0, 1));
     }
 }
