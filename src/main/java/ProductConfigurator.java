@@ -295,7 +295,9 @@ public final class ProductConfigurator {
     public int whyByRules(int feature, int option)
             throws IndexOutOfBoundsException, IllegalStateException {
         checkOption(feature, option);
-        checkExplained(feature, option);
+        if (!explain(feature, option)) {
+            throw new IllegalStateException("some configuration has the option");
+        }
         return explanation.rules;
     }
 
@@ -303,7 +305,9 @@ public final class ProductConfigurator {
     public int whyByChoices(int feature, int option)
             throws IndexOutOfBoundsException, IllegalStateException {
         checkOption(feature, option);
-        checkExplained(feature, option);
+        if (!explain(feature, option)) {
+            throw new IllegalStateException("some configuration has the option");
+        }
         return explanation.choosers;
     }
 
@@ -378,12 +382,6 @@ public final class ProductConfigurator {
     private void checkOffered(int feature, int option) {
         if (!isOffered(feature, option)) {
             throw new IllegalStateException("the option is not offered");
-        }
-    }
-
-    private void checkExplained(int feature, int option) {
-        if (!explain(feature, option)) {
-            throw new IllegalStateException("some configuration has the option");
         }
     }
 

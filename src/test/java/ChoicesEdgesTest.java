@@ -1,11 +1,11 @@
-/** Promises 9 to 14, sentence by sentence: what is empty, what is full, each edge, each refusal. */
+/** Promises 9 to 14, sentence by sentence: what is empty or full, each edge, each refusal. */
 final class ChoicesEdgesTest {
     private static final Class<IndexOutOfBoundsException> INDEX = IndexOutOfBoundsException.class;
     private static final Class<IllegalStateException> STATE = IllegalStateException.class;
     private static final int MIN = Integer.MIN_VALUE;
     private static final int MAX = Integer.MAX_VALUE;
 
-    /** No feature of a product of two; times five the last one would be an option's number again. */
+    /** No feature of a product of two; times five the last one wraps around to a small number. */
     private static final int[] NO_FEATURES = {MIN, -1, 2, 5, 6, 31, 32, 33, MAX, 858993460};
 
     /** No option of a feature of two; -5 with the second feature would be one of the first. */
@@ -33,6 +33,10 @@ final class ChoicesEdgesTest {
             text.append(x.choiceAt(k)).append('.').append(x.chosen(x.choiceAt(k))).append(' ');
         }
         return text.toString();
+    }
+
+    private static String fullAndChosenWhole() {
+        return Readings.whole(States.FULL_AND_CHOSEN.make());
     }
 
     private static ProductConfigurator two() {
@@ -135,16 +139,27 @@ final class ChoicesEdgesTest {
             Check.equal(-1, x.chosen(0));
             Check.equal(-1, x.chosen(5));
         });
-        Check.test("promise 10: the first, the last, one amid six, the others keep their order",
-                () -> {
-                    ProductConfigurator x = allAgainstOne();
-                    Check.equal(1, x.withdraw(0));
-                    Check.equal("4.0 2.0 5.0 1.0 3.0 ", order(x));
-                    Check.equal(0, x.withdraw(4));
-                    Check.equal("2.0 5.0 1.0 3.0 ", order(x));
-                    Check.equal(0, x.withdraw(3));
-                    Check.equal("2.0 5.0 1.0 ", order(x));
-                });
+        Check.test("promise 10: each one of six, the others keep their order", () -> {
+            for (int feature = 0; feature < 6; feature++) {
+                ProductConfigurator x = allAgainstOne();
+                String due = order(x).replace(feature + "." + x.chosen(feature) + " ", "");
+                Check.equal(feature == 0 ? 1 : 0, x.withdraw(feature));
+                Check.equal(due, order(x));
+                Check.equal(5, x.choices());
+            }
+        });
+        Check.test("promise 10: the first, the last, the one between", () -> {
+            ProductConfigurator x = Products.of(2, 2, 2);
+            x.choose(2, 1);
+            x.choose(0, 1);
+            x.choose(1, 0);
+            Check.equal(1, x.withdraw(0));
+            Check.equal("2.1 1.0 ", order(x));
+            Check.equal(0, x.withdraw(1));
+            Check.equal("2.1 ", order(x));
+            Check.equal(1, x.withdraw(2));
+            Check.equal("", order(x));
+        });
         Check.test("promise 10: what is chosen again is the latest choice", () -> {
             ProductConfigurator x = allAgainstOne();
             x.withdraw(4);
@@ -191,7 +206,7 @@ final class ChoicesEdgesTest {
             for (int feature = 0; feature < 6; feature++) {
                 ProductConfigurator x = States.FULL_AND_CHOSEN.make();
                 Check.equal(0, x.force(feature, x.chosen(feature)));
-                Check.equal(Readings.whole(States.FULL_AND_CHOSEN.make()), Readings.whole(x));
+                Check.sameReadings(fullAndChosenWhole(), Readings.whole(x));
             }
         });
         Check.test("promise 11: all six choices are taken back", () -> {
@@ -230,6 +245,23 @@ final class ChoicesEdgesTest {
             x.choose(4, 1);
             Check.equal(1, x.force(0, 0));
             Check.equal("2.0 4.1 0.0 ", order(x));
+        });
+        Check.test("promise 11: the latest of those that stand, whatever was there before", () -> {
+            ProductConfigurator x = Products.fork();
+            x.addFeature(2);
+            x.addFeature(2);
+            x.choose(0, 1);
+            x.choose(4, 0);
+            x.choose(5, 0);
+            x.choose(1, 0);
+            x.withdraw(1);
+            x.withdraw(0);
+            x.withdraw(5);
+            x.choose(1, 0);
+            x.choose(2, 0);
+            Check.equal(2 | 4, x.whyByChoices(0, 0));
+            Check.equal(1, x.force(0, 0));
+            Check.equal("4.0 1.0 0.0 ", order(x));
         });
         Check.test("promise 11: it stops as soon as the option is offered", () -> {
             ProductConfigurator x = Products.chain();
@@ -324,7 +356,7 @@ final class ChoicesEdgesTest {
         Check.test("promise 12: with a choice for every feature nothing is chosen", () -> {
             ProductConfigurator x = States.FULL_AND_CHOSEN.make();
             Check.equal(0, x.takeDefaults());
-            Check.equal(Readings.whole(States.FULL_AND_CHOSEN.make()), Readings.whole(x));
+            Check.sameReadings(fullAndChosenWhole(), Readings.whole(x));
         });
         Check.test("promise 12: the twelfth default is taken, too", () -> {
             ProductConfigurator x = two();
@@ -375,7 +407,7 @@ final class ChoicesEdgesTest {
         Check.test("promise 13: with a choice for every feature nothing is chosen", () -> {
             ProductConfigurator x = States.FULL_AND_CHOSEN.make();
             Check.equal(0, x.finish());
-            Check.equal(Readings.whole(States.FULL_AND_CHOSEN.make()), Readings.whole(x));
+            Check.sameReadings(fullAndChosenWhole(), Readings.whole(x));
         });
         Check.test("promise 13: the choices that are there stay ahead", () -> {
             ProductConfigurator x = Products.of(2, 3, 4);
@@ -408,7 +440,7 @@ final class ChoicesEdgesTest {
             ProductConfigurator x = States.FULL_AND_CHOSEN.make();
             Check.equal(6, x.reset());
             Check.equal(0, x.choices());
-            Check.equal(Readings.whole(States.FULL.make()), Readings.whole(x));
+            Check.sameReadings(Readings.whole(States.FULL.make()), Readings.whole(x));
         });
         Check.test("promise 14: there is room for all choices again", () -> {
             ProductConfigurator x = allAgainstOne();

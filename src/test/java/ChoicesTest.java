@@ -161,7 +161,7 @@ final class ChoicesTest {
         x.finish();
         x.addDefault(0, 1);
         Check.equal(3, x.reset());
-        Check.equal(before, Readings.of(x));
+        Check.sameReadings(before, Readings.of(x));
         Check.equal(0, x.reset());
         Check.equal(1, x.dropDefaults());
     }

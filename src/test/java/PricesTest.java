@@ -17,7 +17,7 @@ final class PricesTest {
         Check.test("promise 33: leastWith", PricesTest::leastWith);
     }
 
-    /** Prices 10, 20, 30 and 5, 0, 50; a surcharge of -100 for 0.2 with 1.2, one of 40 for 0.0, 1.1. */
+    /** Prices 10, 20, 30 and 5, 0, 50; surcharges: -100 for 0.2 with 1.2, 40 for 0.0 with 1.1. */
     private static ProductConfigurator shop() {
         ProductConfigurator x = Products.of(3, 3);
         int[][] prices = {{10, 20, 30}, {5, 0, 50}};

@@ -1,4 +1,4 @@
-/** Promises 1 to 8, sentence by sentence: what is empty, what is full, each edge, each refusal. */
+/** Promises 1 to 8, sentence by sentence: what is empty or full, each edge, each refusal. */
 final class ProductEdgesTest {
     private static final Class<IndexOutOfBoundsException> INDEX = IndexOutOfBoundsException.class;
     private static final Class<IllegalArgumentException> ARGUMENT = IllegalArgumentException.class;
@@ -6,7 +6,7 @@ final class ProductEdgesTest {
     private static final int MIN = Integer.MIN_VALUE;
     private static final int MAX = Integer.MAX_VALUE;
 
-    /** No feature of a product of two; times five the last one would be an option's number again. */
+    /** No feature of a product of two; times five the last one wraps around to a small number. */
     private static final int[] NO_FEATURES = {MIN, -1, 2, 5, 6, MAX, 858993460};
 
     /** No option of a feature of two; -5 with the second feature would be one of the first. */
@@ -68,7 +68,7 @@ final class ProductEdgesTest {
         Check.test("promise 1: a new object knows nothing of another one", () -> {
             String before = Readings.whole(new ProductConfigurator());
             Readings.whole(States.FULL_AND_CHOSEN.make());
-            Check.equal(before, Readings.whole(new ProductConfigurator()));
+            Check.sameReadings(before, Readings.whole(new ProductConfigurator()));
         });
     }
 
@@ -261,13 +261,19 @@ final class ProductEdgesTest {
         return x;
     }
 
+    private static ProductConfigurator priced() {
+        ProductConfigurator x = two();
+        x.setPrice(0, 1, 7);
+        return x;
+    }
+
     private static void setPrice() {
         Check.test("promise 5: 0 is the least price", () -> {
             ProductConfigurator x = two();
             x.setPrice(0, 0, 1);
             Check.equal(1, x.setPrice(0, 0, 0));
             Check.equal(0, x.setPrice(0, 0, 0));
-            Check.refused(ARGUMENT, States.KNOT::make, new int[] {-1, -1000, MIN},
+            Check.refused(ARGUMENT, ProductEdgesTest::priced, new int[] {-1, -1000, MIN},
                     (y, price) -> y.setPrice(0, 1, price));
         });
         Check.test("promise 5: 1000 is the greatest price", () -> {
@@ -275,7 +281,7 @@ final class ProductEdgesTest {
             Check.equal(0, x.setPrice(1, 1, 1000));
             Check.equal(1000, x.greatestPrice());
             Check.equal(1000, x.setPrice(1, 1, 999));
-            Check.refused(ARGUMENT, States.KNOT::make, new int[] {1001, 1 << 16, MAX},
+            Check.refused(ARGUMENT, ProductEdgesTest::priced, new int[] {1001, 1 << 16, MAX},
                     (y, price) -> y.setPrice(0, 1, price));
         });
         Check.test("promise 5: each option has a price of its own, which is returned", () -> {
@@ -452,7 +458,7 @@ final class ProductEdgesTest {
             String before = Readings.of(x);
             Check.equal(12, x.dropDefaults());
             Check.equal(taken, x.choices());
-            Check.equal(before, Readings.of(x));
+            Check.sameReadings(before, Readings.of(x));
         });
     }
 }

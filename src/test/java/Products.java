@@ -26,7 +26,7 @@ final class Products {
         return x;
     }
 
-    /** A chain: 0.0 requires 1.0, 1.0 requires 2.0, 2.0 requires 3.0, each feature of two options. */
+    /** A chain of features of two options: 0.0 requires 1.0, that 2.0, that 3.0. */
     static ProductConfigurator chain() {
         ProductConfigurator x = of(2, 2, 2, 2);
         x.addRule(1, 0, 0, 1, 0);

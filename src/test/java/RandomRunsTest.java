@@ -11,6 +11,8 @@ final class RandomRunsTest {
     private static final int CALLS_FROM_STATE = 120;
     private static final int RUNS_FROM_STATE = 6;
 
+    private static final int CALLS_OF_CHOICES = 430;
+
     /** Seldom, since the model tries each of 15625 configurations. */
     private static final int GREAT_RUNS = 4;
 
@@ -45,35 +47,43 @@ final class RandomRunsTest {
     }
 
     static void runAll() {
-        for (int run = 0; run < LONG_RUNS; run++) {
-            RandomRunsTest test = new RandomRunsTest(run);
-            Check.test("random run " + run, () -> test.go(CALLS));
-        }
-        for (int run = LONG_RUNS; run < LONG_RUNS + SHORT_RUNS; run++) {
-            RandomRunsTest test = new RandomRunsTest(run);
-            Check.test("random run, read whole at its end, " + run, () -> {
-                test.go(FEWER_CALLS);
-                test.readWhole();
-            });
-        }
-        for (States from : States.values()) {
-            for (int run = 0; run < RUNS_FROM_STATE; run++) {
-                RandomRunsTest test = new RandomRunsTest(run, from);
-                Check.test("random run from the state " + from + ", " + run, () -> {
-                    test.go(CALLS_FROM_STATE);
-                    test.readWhole();
-                });
+        for (int k = 0; k < LONG_RUNS + SHORT_RUNS; k++) {
+            int run = k;
+            if (run < LONG_RUNS) {
+                Check.test("random run " + run, () -> new RandomRunsTest(run).go(CALLS));
+            } else {
+                Check.test("random run, read whole at its end, " + run,
+                        () -> new RandomRunsTest(run).goAndReadWhole(FEWER_CALLS));
             }
         }
-        for (int run = 0; run < GREAT_RUNS; run++) {
-            RandomRunsTest test = new RandomRunsTest(run, States.NOTHING);
-            Check.test("random run of the greatest product " + run, test::goGreat);
+        for (States from : States.values()) {
+            for (int k = 0; k < RUNS_FROM_STATE; k++) {
+                int run = k;
+                Check.test("random run from the state " + from + ", " + run,
+                        () -> new RandomRunsTest(run, from).goAndReadWhole(CALLS_FROM_STATE));
+                Check.test("random run of choices from the state " + from + ", " + run,
+                        () -> new RandomRunsTest(RUNS_FROM_STATE + run, from).goOverChoices());
+            }
+        }
+        for (int k = 0; k < GREAT_RUNS; k++) {
+            int run = k;
+            Check.test("random run of the greatest product " + run,
+                    () -> new RandomRunsTest(run, States.NOTHING).goGreat());
         }
     }
 
     private void go(int calls) {
         for (int call = 0; call < calls; call++) {
             step(call, next(100));
+        }
+    }
+
+    /** Choices that come and go in one product; after each of them one is looked at. */
+    private void goOverChoices() {
+        for (int call = 0; call < CALLS_OF_CHOICES; call += 2) {
+            changeChoices(30 + next(28));
+            int k = next(7);
+            compare("choiceAt", () -> x.choiceAt(k), () -> model.choiceAt(k));
         }
     }
 
@@ -86,8 +96,9 @@ final class RandomRunsTest {
         }
     }
 
-    private void readWhole() {
-        Check.equal(Readings.whole(model), Readings.whole(x));
+    private void goAndReadWhole(int calls) {
+        go(calls);
+        Check.sameReadings(Readings.whole(model), Readings.whole(x));
     }
 
     /** A linear generator of its own: the runs are the same ones every time. */
@@ -181,7 +192,8 @@ final class RandomRunsTest {
             case 9 -> compare("count", x::count, model::count);
             case 10 -> compare("countByTrying", x::countByTrying, model::count);
             case 11 -> compare("nodes", x::nodes, model::nodes);
-            case 12 -> compare("whyByRules", () -> x.whyByRules(f, a), () -> model.whyByRules(f, a));
+            case 12 -> compare("whyByRules", () -> x.whyByRules(f, a),
+                    () -> model.whyByRules(f, a));
             case 13 -> compare("whyByChoices", () -> x.whyByChoices(f, a),
                     () -> model.whyByChoices(f, a));
             case 14 -> compare("price", x::price, model::price);

@@ -1,4 +1,4 @@
-/** Promises 15 to 26, sentence by sentence: what is empty, what is full, each edge, each refusal. */
+/** Promises 15 to 26, sentence by sentence: what is empty or full, each edge, each refusal. */
 final class ReadingEdgesTest {
     private static final Class<IndexOutOfBoundsException> INDEX = IndexOutOfBoundsException.class;
     private static final int MIN = Integer.MIN_VALUE;
@@ -276,7 +276,7 @@ final class ReadingEdgesTest {
             Check.test("promises 15 to 33: reading changes nothing, " + state, () -> {
                 ProductConfigurator x = state.make();
                 Readings.of(x);
-                Check.equal(Readings.whole(state.make()), Readings.whole(x));
+                Check.sameReadings(Readings.whole(state.make()), Readings.whole(x));
             });
         }
     }

@@ -24,6 +24,24 @@ enum States {
         setPrice 0 1 1000
         addSurcharge 0 1 2 1 -500"""),
 
+    /** 0.0 to 4.0 each exclude another one of the five options of the feature 5: not all can be. */
+    FIVE_WAYS("""
+        addFeature 2
+        addFeature 2
+        addFeature 2
+        addFeature 2
+        addFeature 2
+        addFeature 5
+        addRule 0 0 0 5 0
+        addRule 0 5 1 1 0
+        addRule 0 2 0 5 2
+        addRule 0 5 3 3 0
+        addRule 0 4 0 5 4
+        setPrice 5 4 10
+        addSurcharge 0 0 4 0 -5
+        addDefault 5 4
+        addDefault 1 0"""),
+
     /** One less than the most of each: 5 features, 19 rules, 9 surcharges, 11 defaults. */
     ALMOST_FULL(Parts.FIVE_FEATURES + Parts.RULES + Parts.PRICES + Parts.SURCHARGES
             + Parts.DEFAULTS + Parts.CHOICES),

@@ -21,7 +21,7 @@ final class TermsTest {
     }
 
     private static void theObject() {
-        Check.test("promises 2 to 33, terms: 512 calls, the last one answers like the first", () -> {
+        Check.test("promises 2 to 33, terms: the last of 512 calls answers like the first", () -> {
             ProductConfigurator x = Products.of(2, 5);
             for (int call = 3; call <= 510; call += 2) {
                 Check.equal(1, x.choose(1, call % 5));
@@ -30,7 +30,7 @@ final class TermsTest {
             Check.equal(1, x.choose(1, 4));
             Check.equal(2, x.count());
         });
-        Check.test("promises 3, 27, terms: 512 calls, nearly all refused, since all is full", () -> {
+        Check.test("promises 3, 27, terms: 512 calls, nearly all of them refused", () -> {
             ProductConfigurator x = Products.of(2, 2);
             for (int rule = 0; rule < 20; rule++) {
                 x.addRule(0, 0, 0, 1, 0);
@@ -103,7 +103,8 @@ final class TermsTest {
     }
 
     private static void keptOrNot() {
-        Check.test("promise 3, terms: kind 0 is broken by both alone", () -> keeps(0, 8, 0, 1, 1, 1));
+        Check.test("promise 3, terms: kind 0 is broken by both alone",
+                () -> keeps(0, 8, 0, 1, 1, 1));
         Check.test("promise 3, terms: kind 1 is broken by the first without the other",
                 () -> keeps(1, 7, 1, 0, 1, 1));
         Check.test("promise 3, terms: kind 2 is broken by one without the other",
@@ -349,7 +350,7 @@ final class TermsTest {
     }
 
     private static void explanations() {
-        Check.test("promises 27, 28, terms: the rules are left out first, by falling numbers", () -> {
+        Check.test("promises 27, 28, terms: rules are left out first, by falling numbers", () -> {
             ProductConfigurator x = Products.of(2, 2, 2);
             x.addRule(0, 0, 0, 1, 0);
             x.addRule(0, 0, 0, 2, 0);
@@ -362,7 +363,7 @@ final class TermsTest {
             Check.equal(2, x.whyByRules(0, 0));
             Check.equal(4, x.whyByChoices(0, 0));
         });
-        Check.test("promises 27, 28, terms: a choice that the rules do not need is left out", () -> {
+        Check.test("promises 27, 28, terms: a choice that is not needed is left out", () -> {
             ProductConfigurator x = States.KNOT.make();
             x.choose(0, 1);
             Check.equal(1 | 8 | 16, x.whyByRules(0, 0));

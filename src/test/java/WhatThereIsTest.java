@@ -107,7 +107,7 @@ final class WhatThereIsTest {
             new ProductConfigurator(), Products.knot(), Products.chain(), Products.greatest()}) {
             x.takeDefaults();
             String before = Readings.of(x);
-            Check.equal(before, Readings.of(x));
+            Check.sameReadings(before, Readings.of(x));
         }
     }
 }

@@ -1,11 +1,11 @@
-/** Promises 27 to 33, sentence by sentence: what is empty, what is full, each edge, each refusal. */
+/** Promises 27 to 33, sentence by sentence: what is empty or full, each edge, each refusal. */
 final class WhyAndPricesEdgesTest {
     private static final Class<IndexOutOfBoundsException> INDEX = IndexOutOfBoundsException.class;
     private static final Class<IllegalStateException> STATE = IllegalStateException.class;
     private static final int MIN = Integer.MIN_VALUE;
     private static final int MAX = Integer.MAX_VALUE;
 
-    /** No feature of the knot's three; times five the last one would be an option's number again. */
+    /** No feature of the knot's three; times five the last one wraps around to a small number. */
     private static final int[] NO_FEATURES = {MIN, -1, 3, 5, 6, 32, MAX, 858993460};
 
     /** No option of a feature of two; -5 with the second feature would be one of the first. */
@@ -25,7 +25,8 @@ final class WhyAndPricesEdgesTest {
         leastWithRefusals();
     }
 
-    private static void due(ProductConfigurator x, int feature, int option, int rules, int choices) {
+    private static void due(ProductConfigurator x, int feature, int option, int rules,
+            int choices) {
         Check.equal(rules, x.whyByRules(feature, option));
         Check.equal(choices, x.whyByChoices(feature, option));
     }
@@ -33,7 +34,7 @@ final class WhyAndPricesEdgesTest {
     private static void explanations() {
         Check.test("promises 27, 28: no choices, the rules alone", () ->
                 due(States.KNOT.make(), 0, 0, 1 | 8 | 16, 0));
-        Check.test("promises 27, 28: the first rule alone, the first feature's choice alone", () -> {
+        Check.test("promises 27, 28: the first rule and the first feature's choice", () -> {
             ProductConfigurator x = Products.of(2, 2);
             x.addRule(0, 0, 0, 1, 0);
             x.choose(0, 0);
@@ -90,7 +91,26 @@ final class WhyAndPricesEdgesTest {
         return x;
     }
 
+    /** Of two features, each one and the next, the one's choice is in no way of its options. */
+    private static void ownChoice(int feature) {
+        int next = (feature + 1) % 6;
+        ProductConfigurator x = Products.of(3, 3, 3, 3, 3, 3);
+        x.addRule(0, feature, 1, next, 0);
+        x.choose(feature, 0);
+        x.choose(next, 0);
+        due(x, feature, 1, 1, 1 << next);
+        Check.refused(STATE, () -> x.whyByRules(feature, 2));
+        Check.refused(STATE, () -> x.whyByChoices(feature, 2));
+        x.force(feature, 2);
+        due(x, feature, 1, 1, 1 << next);
+    }
+
     private static void leftOut() {
+        Check.test("promises 27, 28: the own choice of each feature is not regarded", () -> {
+            for (int feature = 0; feature < 6; feature++) {
+                ownChoice(feature);
+            }
+        });
         Check.test("promise 27: of rules that say the same the lowest number stays", () -> {
             ProductConfigurator x = Products.of(2, 2);
             for (int rule = 0; rule < 20; rule++) {
@@ -317,7 +337,7 @@ final class WhyAndPricesEdgesTest {
     }
 
     private static void leastWith() {
-        Check.test("promise 33: the first and the last option of the first and last feature", () -> {
+        Check.test("promise 33: the first and the last option, first and last feature", () -> {
             ProductConfigurator x = Products.of(5, 2, 2, 2, 2, 5);
             for (int option = 0; option < 5; option++) {
                 x.setPrice(0, option, 10 * option);

@@ -13,7 +13,8 @@ final class WhyTest {
         Check.test("promises 27, 28: the own choice is not regarded", WhyTest::ownChoice);
     }
 
-    private static void due(ProductConfigurator x, int feature, int option, int rules, int choices) {
+    private static void due(ProductConfigurator x, int feature, int option, int rules,
+            int choices) {
         Check.equal(rules, x.whyByRules(feature, option));
         Check.equal(choices, x.whyByChoices(feature, option));
     }
