@@ -338,6 +338,16 @@ final class TermsTest {
             x.addRule(0, 0, 0, 2, 1);
             Check.equal(1 + 1 + 1 + 1, x.nodes());
         });
+        Check.test("promise 26, terms: only nodes to which a way leads count", () -> {
+            // 1.0 alone leaves less of feature 2, and it does not go together with 0.0.
+            ProductConfigurator x = Products.of(2, 2, 2);
+            x.addRule(0, 1, 0, 2, 0);
+            x.addRule(0, 0, 0, 1, 0);
+            Check.equal(1 + 2 + 2 + 1, x.nodes());
+            x.choose(0, 0);
+            Check.equal(1 + 1 + 1 + 1, x.nodes());
+            Check.equal(2, x.count());
+        });
         Check.test("promise 26, terms: the sets are those that the choices allow", () -> {
             ProductConfigurator x = Products.of(3, 2, 2);
             x.addRule(0, 0, 0, 2, 0);

@@ -167,6 +167,12 @@ final class WhyAndPricesEdgesTest {
             Check.refused(INDEX, States.FULL::make, x -> x.whyByRules(5, 5));
             Check.refused(INDEX, States.FULL::make, x -> x.whyByChoices(5, 5));
         });
+        Check.test("promises 27, 28: no such feature or option goes first", () -> {
+            Check.refused(INDEX, States.TWO_FEATURES::make, x -> x.whyByRules(0, 2));
+            Check.refused(INDEX, States.TWO_FEATURES::make, x -> x.whyByChoices(1, 5));
+            Check.refused(INDEX, States.FULL_AND_CHOSEN::make, x -> x.whyByRules(6, 0));
+            Check.refused(INDEX, States.FULL_AND_CHOSEN::make, x -> x.whyByChoices(0, -1));
+        });
         Check.test("promises 27, 28: there is a configuration, as the option is offered", () -> {
             Check.refused(STATE, States.KNOT::make, x -> x.whyByRules(0, 1));
             Check.refused(STATE, States.KNOT::make, x -> x.whyByChoices(0, 1));
@@ -377,6 +383,10 @@ final class WhyAndPricesEdgesTest {
                 Check.refused(INDEX, States.KNOT::make, NO_OPTIONS, (x, a) -> x.leastWith(f, a));
             }
             Check.refused(INDEX, States.FULL::make, x -> x.leastWith(5, 5));
+        });
+        Check.test("promise 33: no such feature or option goes first", () -> {
+            Check.refused(INDEX, States.FULL_AND_CHOSEN::make, x -> x.leastWith(0, 2));
+            Check.refused(INDEX, States.FULL_AND_CHOSEN::make, x -> x.leastWith(6, 0));
         });
         Check.test("promise 33: the option is not offered by rules, though it remains", () -> {
             Check.refused(STATE, States.KNOT::make, x -> x.leastWith(0, 0));
