@@ -6,6 +6,7 @@ public final class AllTests {
     public static void main(String[] args) {
         FaceTest.runAll();
         LanguageTest.runAll();
+        ReadmeTest.runAll();
         ProductTest.runAll();
         ChoicesTest.runAll();
         WhatThereIsTest.runAll();

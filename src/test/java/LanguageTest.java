@@ -3,6 +3,8 @@ import java.io.UncheckedIOException;
 import java.lang.reflect.Executable;
 import java.nio.file.Files;
 import java.nio.file.Path;
+import java.util.ArrayDeque;
+import java.util.Deque;
 import java.util.regex.Matcher;
 import java.util.regex.Pattern;
 
@@ -21,11 +23,11 @@ final class LanguageTest {
     /** A rule by its number, and a pattern that no line of the program may hold. */
     private static final String[][] RULED_OUT = {
         {"the head: no package", "^\\s*package\\b"},
-        {"2: no lambda", "^(?!\\s*(?:case|default)\\b).*->"},
+        {"2: no lambda", "[;{}](?!\\s*(?:case|default)\\b)[^;{}]*->"},
         {"2: no method reference", "::"},
         {"4: the library", "\\bimport\\s+(?!java\\.util\\.)"},
         {"4: arraycopy alone of System", "\\bSystem\\.(?!arraycopy\\b)"},
-        {"4: nothing named Exact", "Exact\\s*\\("},
+        {"4: nothing named Exact", "\\b(?:Math|Integer|Long)\\.\\w+Exact\\b"},
         {"5: no static initialiser", "^\\s*static\\s*\\{"},
         {"6: only the listed exceptions", "\\bthrow\\s+(?!new\\s+" + LISTED_EXCEPTIONS + "\\b)"},
         {"6: only the listed exceptions",
@@ -38,6 +40,8 @@ final class LanguageTest {
         {"10: texts are joined by StringBuilder", "\\+\\s*\"|\"\\s*\\+"},
         {"13: no clock, no randomness, no thread", "\\b(?:Random|random|Thread|nanoTime|Clock)\\b"},
     };
+    private static final Pattern CLASS_HEAD = Pattern.compile(
+            "\\b(?:class|interface|enum|record)\\s+\\w");
     private static final int MOST_CLASSES = 12;
     private static final int MOST_PARAMETERS = 7;
     private static final int LONGEST_METHOD = 60;
@@ -60,9 +64,18 @@ final class LanguageTest {
         }
     }
 
+    /** The lines stay where they are; a sign, which is a number, becomes one. */
     private static String withoutCommentsAndTexts() {
-        return COMMENTS_AND_TEXTS.matcher(program()).replaceAll(found ->
-                found.group().startsWith("/") ? " " : "\"\"");
+        return COMMENTS_AND_TEXTS.matcher(program()).replaceAll(found -> {
+            switch (found.group().charAt(0)) {
+                case '"':
+                    return "\"\"";
+                case '\'':
+                    return "0";
+                default:
+                    return " " + found.group().replaceAll("[^\n]", "");
+            }
+        });
     }
 
     private static void nothingRuledOut() {
@@ -79,26 +92,42 @@ final class LanguageTest {
         Check.equal(true, program().chars().allMatch(sign -> sign >= 1 && sign <= 127));
     }
 
-    /** A method ends with the brace that stands as far in as its first line. */
+    /** What a brace opens: a class, a method right inside one, or else a part of a method. */
+    private enum Part { CLASS, METHOD, OTHER }
+
     private static void sizes() {
+        String text = withoutCommentsAndTexts();
+        Deque<Part> parts = new ArrayDeque<>();
         int classes = 0;
-        int start = 0;
-        String end = null;
-        String[] lines = program().split("\n");
-        for (int k = 0; k < lines.length; k++) {
-            String line = lines[k];
-            boolean isClass = line.matches(" *(public|private) .*class .*\\{");
-            classes += isClass ? 1 : 0;
-            if (end == null && !isClass && line.matches(" {4,8}[a-zA-Z].*[(].*")) {
-                boolean isDone = line.endsWith(";");
-                end = isDone ? null : line.replaceAll("\\S.*", "") + "}";
-                start = k;
-            } else if (line.equals(end)) {
-                Check.equal(true, k - start < LONGEST_METHOD);
-                end = null;
+        int firstLine = 0;
+        int line = 1;
+        int headStart = 0;
+        for (int k = 0; k < text.length(); k++) {
+            char sign = text.charAt(k);
+            line += sign == '\n' ? 1 : 0;
+            if (sign == '{') {
+                String head = text.substring(headStart, k).strip();
+                parts.push(partOf(head, parts.peek()));
+                classes += parts.peek() == Part.CLASS ? 1 : 0;
+                firstLine = parts.peek() == Part.METHOD ? line - linesIn(head) : firstLine;
+            } else if (sign == '}' && parts.pop() == Part.METHOD
+                    && line - firstLine >= LONGEST_METHOD) {
+                throw new AssertionError("rule 11: long method, lines " + firstLine + " to " + line);
             }
+            headStart = sign == '{' || sign == '}' || sign == ';' ? k + 1 : headStart;
         }
         Check.equal(true, classes <= MOST_CLASSES);
+    }
+
+    private static Part partOf(String head, Part around) {
+        if (CLASS_HEAD.matcher(head).find()) {
+            return Part.CLASS;
+        }
+        return around == Part.CLASS && head.contains("(") ? Part.METHOD : Part.OTHER;
+    }
+
+    private static int linesIn(String head) {
+        return (int) head.chars().filter(sign -> sign == '\n').count();
     }
 
     private static void parameters() {
@@ -112,8 +141,10 @@ final class LanguageTest {
         for (Executable method : owner.getDeclaredMethods()) {
             Check.equal(true, method.getParameterCount() <= MOST_PARAMETERS);
         }
+        // Java itself adds two to those that the constructor of an enum is written with.
+        int added = owner.isEnum() ? 2 : 0;
         for (Executable constructor : owner.getDeclaredConstructors()) {
-            Check.equal(true, constructor.getParameterCount() <= MOST_PARAMETERS);
+            Check.equal(true, constructor.getParameterCount() <= MOST_PARAMETERS + added);
         }
     }
 }
