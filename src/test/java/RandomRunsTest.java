@@ -2,19 +2,19 @@ import java.util.function.Supplier;
 
 /** Runs of calls, each answer held against the one of the plain model. */
 final class RandomRunsTest {
-    private static final int LONG_RUNS = 120;
+    private static final int LONG_RUNS = 600;
     private static final int CALLS = 512;
 
     /** After fewer calls there are enough left of 512 to read the object whole. */
-    private static final int SHORT_RUNS = 80;
+    private static final int SHORT_RUNS = 400;
     private static final int FEWER_CALLS = 200;
     private static final int CALLS_FROM_STATE = 120;
-    private static final int RUNS_FROM_STATE = 6;
+    private static final int RUNS_FROM_STATE = 12;
 
     private static final int CALLS_OF_CHOICES = 430;
 
     /** Seldom, since the model tries each of 15625 configurations. */
-    private static final int GREAT_RUNS = 4;
+    private static final int GREAT_RUNS = 8;
 
     private final int run;
     private final ProductConfigurator x;
